@@ -463,7 +463,8 @@ public final class PromisesTest {
         is("play", x.play(3), 3);
         is("play is one", x.undo(), 0);
         is("askings", x.now(2), 0);
-        x.ask(0, 1, 0, 0);
+        write(x, "\0\0\0");
+        x.play(1);
         write(x, THREE);
         x.table();
         is("a new table", x.undo(), N);
@@ -477,6 +478,19 @@ public final class PromisesTest {
         is("judged only", x.undo(), N);
         is("no deal", x.deal(5, 1), false);
         is("no deal", x.undo(), N);
+        SevenTable over = tell("kinds 2;person a;person b;hand a 0 4;");
+        write(over, "\0\0");
+        is("nothing played", over.play(3), 0);
+        is("nothing played", over.undo(), N);
+        SevenTable lying = tell("kinds 2;person a;person b;hand a 0 1;hand b 0 1;");
+        lying.ask(0, 1, 0, 1);
+        lying.ask(1, 0, 0, 0);
+        is("caught", lying.person(1, 4), 1);
+        is("in vain", lying.now(4), 0);
+        lying.undo();
+        is("not caught", lying.person(1, 4), 0);
+        is("in vain", lying.now(4), 1);
+        is("given", lying.person(1, 6) + lying.person(1, 5), 0);
     }
 
     private static void p15Known() {
@@ -644,6 +658,11 @@ public final class PromisesTest {
         is("no such", x.gains(2), N);
         is("no such", x.gains(-1), N);
         is("none", tell("kinds 3;person a;").gains(0), 0);
+        SevenTable y = tell("kinds 4;person a;person b;person d;hand a 0 2;hand b 0 1;hand a 1 1;hand b 1 2;hand d 1 1;"
+                + "hand b 2 2;hand d 2 2;hand a 3 2;hand d 3 2;");
+        is("1 and 3, not 0 nor 2", y.gains(0), 2);
+        is("1 and 2", y.gains(1), 2);
+        is("1, 2 and 3", y.gains(2), 3);
     }
 
     private static void p23Open() {
@@ -654,7 +673,7 @@ public final class PromisesTest {
         SevenTable z = tell("kinds 2;person a;person b;hand a 0 4;hand b 1 3;heap 1;");
         is("b on turn: draws even", z.open(), 0);
         SevenTable w = tell("kinds 3;person a;person b;hand a 0 1;hand b 1 1;hand b 0 1;heap 0 1 0 1;");
-        is("value does not change it", w.open(), w.open());
+        is("nothing changes", w.open(), w.open());
         is("now", w.now(2), 0);
         is("three persons", tell(THREE).open(), -101);
         is("one", tell("kinds 2;person a;hand a 0 1;").open(), -101);
@@ -663,6 +682,14 @@ public final class PromisesTest {
         is("four in the heap", tell("kinds 3;person a;person b;hand a 0 1;heap 1 1 1 1;").open(), 1);
         is("over", tell("kinds 2;person a;person b;hand a 0 4;").open(), -101);
         is("empty", new SevenTable().open(), -101);
+        String two = "kinds 3;person a;person b;hand a 0 3;hand a 1 1;hand b 2 3;heap 0 2 1 1;";
+        // a draws 0 and lays four down; then b draws 2 and has none left: a, too, draws for nothing.
+        is("one each", tell(two).open(), 0);
+        // With 'again' a shows 0, draws 2, gives it to b; nobody gets more.
+        is("one each", tell(two + "again;").open(), 0);
+        String refilled = "kinds 2;person a;person b;hand a 0 3;hand b 1 1;heap 0 1 1 1;";
+        is("a has a book, b draws the rest", tell(refilled).open(), 0);
+        is("b draws one, a draws two as a refill, and takes b's", tell(refilled + "refill 3;").open(), 2);
     }
 
     private static void p24First() {
