@@ -1148,28 +1148,25 @@ public final class SevenTable {
             return true;
         }
 
-        /** The turn is of the first one, from p round, who has a card or can draw some. */
+        /** The turn is of the first one, round from this one, who has a card or can draw some. */
         private void settle(int from) {
             turn = NONE;
             int p = from;
             for (int i = 0; i < persons && turn == NONE; i++) {
-                // Each card that is drawn is one less in the heap, so a pack's number is bound enough.
-                int left = 0;
-                for (int drawn = 0; drawn < PACK && heapFrom < heapTo; drawn++) {
-                    if (left == 0 && cards[p] > 0) {
-                        break;
-                    }
-                    left = left == 0 ? refill : left;
-                    if (left == 0) {
-                        break;
-                    }
-                    drawCard(p, false);
-                    left--;
-                }
+                takeRefill(p);
                 if (cards[p] > 0) {
                     turn = p;
                 }
                 p = after(p);
+            }
+        }
+
+        private void takeRefill(int p) {
+            // A round draws a card at least, so a pack's number of rounds is more than enough.
+            for (int round = 0; round < PACK && cards[p] == 0 && refill > 0 && heapFrom < heapTo; round++) {
+                for (int i = 0; i < refill && heapFrom < heapTo; i++) {
+                    drawCard(p, false);
+                }
             }
         }
 
