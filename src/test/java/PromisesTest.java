@@ -223,6 +223,9 @@ public final class PromisesTest {
         tableFault("kinds 3;heap 0 0 0 0 0;", 5, 21);
         tableFault("kinds 3;person a;heap 0 0;hand a 0 3;", 5, 35);
         tableFault("\u00e9", 1, 0);
+        String pack = "kinds 13;heap" + times(" 0 1 2 3 4 5 6 7 8 9 10 11 12", 4);
+        is("a whole pack", tell(pack + ";").now(1), 52);
+        tableFault(pack + " 7;", 5, pack.length() + 1);
         tableFault("again;" + times(" ", 900), 1, 900);
         tableFault(times(" ", 895) + "again;", 1, 900);
         tableFault(times(" ", 896) + "agains;", 1, 896);
@@ -663,6 +666,7 @@ public final class PromisesTest {
         is("1 and 3, not 0 nor 2", y.gains(0), 2);
         is("1 and 2", y.gains(1), 2);
         is("1, 2 and 3", y.gains(2), 3);
+        is("13 kinds", tell("kinds 13;person a;person b;hand a 12 2;hand b 12 2;hand b 0 4;").gains(0), 1);
     }
 
     private static void p23Open() {
@@ -687,6 +691,12 @@ public final class PromisesTest {
         is("one each", tell(two).open(), 0);
         // With 'again' a shows 0, draws 2, gives it to b; nobody gets more.
         is("one each", tell(two + "again;").open(), 0);
+        SevenTable later = tell("kinds 3;person a;person b;hand a 0 1;hand a 2 2;hand b 1 1;hand b 2 1;");
+        is("no book can be", later.open(), 0);
+        write(later, "kinds 2;person a;person b;hand a 0 2;hand b 0 2;hand b 1 3;heap 1;");
+        later.table();
+        is("two kinds behind three: a takes 0, b draws 1", later.open(), 0);
+        is("the kind to ask", later.first(), 0);
         String refilled = "kinds 2;person a;person b;hand a 0 3;hand b 1 1;heap 0 1 1 1;";
         is("a has a book, b draws the rest", tell(refilled).open(), 0);
         is("b draws one, a draws two as a refill, and takes b's", tell(refilled + "refill 3;").open(), 2);
