@@ -331,6 +331,24 @@ public final class EdgesOfCallsTest extends Check {
         is("nothing came", zero.asked(4) * 10 + zero.asked(5), -11);
     }
 
+    private static void askedRows() {
+        SevenTable x = tell("kinds 3;" + people(3) + "hand a 2 1;hand a 1 1;hand b 1 1;hand d 2 1;hand d 0 3;heap 1 0 2;");
+        askedIs(x.ask(0, 1, 1, 1), x, new int[] {0, 1, 1, 0, 1, N, 1, 1});
+        askedIs(x.ask(1, 2, 1, 0), x, new int[] {1, 2, 1, 0, 0, N, 0, 1});
+        askedIs(x.ask(2, 1, 0, 0), x, new int[] {2, 1, 0, 1, N, 0, 0, 1});
+        askedIs(x.ask(2, 0, 2, 0), x, new int[] {2, 0, 2, 1, N, N, 0, 1});
+        askedIs(x.ask(2, 1, 2, 0), x, new int[] {2, 1, 2, 0, 2, N, 0, 0});
+        askedIs(x.ask(0, 1, 1, 0), x, new int[] {0, 1, 1, 1, N, N, 0, 2});
+        askedIs(x.ask(0, 2, 1, 1), x, new int[] {0, 2, 1, 0, N, N, 0, 1});
+    }
+
+    private static void askedIs(int given, SevenTable x, int[] due) {
+        is("given", given, due[3]);
+        for (int what = 0; what < 8; what++) {
+            is("asking " + x.now(2) + ", what " + what, x.asked(what), due[what]);
+        }
+    }
+
     private static void askedWhatAllKnew() {
         SevenTable x = tell("kinds 3;person a;person b;hand a 0 2;hand a 1 1;hand b 0 1;hand b 1 1;heap 2 2 2;");
         x.ask(0, 1, 0, 0);
@@ -348,6 +366,9 @@ public final class EdgesOfCallsTest extends Check {
         SevenTable empty = tell("kinds 3;person a;person b;hand a 0 1;");
         empty.ask(0, 1, 0, 0);
         is("who has no card", empty.asked(7), 0);
+        SevenTable one = tell("kinds 3;person a;person b;hand a 0 1;hand b 1 1;");
+        one.ask(0, 1, 0, 0);
+        is("who has one other", one.asked(7), 1);
     }
 
     private static void undoEdges() {
@@ -493,6 +514,9 @@ public final class EdgesOfCallsTest extends Check {
         is("nothing can be undone", x.undo(), N);
         is("one", play(x, "\0\3\2", 1), 1);
         is("askings", x.now(2), 1);
+        is("one can be undone", x.undo(), 0);
+        same("as it was, but for asked()", cards(x), before.substring(0, before.indexOf("\nasked")));
+        is("one", play(x, "\0\3\2", 1), 1);
         is("the tape is empty", x.count(4), 0);
         int done = play(x, "\3\3\3", 400);
         is("400: to the end", x.now(0), N);
@@ -563,6 +587,28 @@ public final class EdgesOfCallsTest extends Check {
         is("dealt", four.deal(4, seed), true);
         is("four of a kind are laid down", four.person(0, 1), 1);
         is("who has none: the turn goes on", four.now(0), four.person(1, 0) > 0 ? 1 : N);
+    }
+
+    private static void dealAnewBehindVain() {
+        SevenTable x = tell("kinds 3;person a;person b;hand a 0 1;hand a 1 1;hand b 0 1;");
+        x.ask(0, 1, 0, 1);
+        x.ask(1, 0, 0, 1);
+        is("over", x.now(0), N);
+        is("caught", x.person(0, 4) * 10 + x.person(1, 4), 11);
+        is("dealt", x.deal(6, 4), true);
+        is("none in vain", x.now(4), 0);
+        is("not over", x.now(0), 0);
+        is("nobody is caught", x.person(0, 4) + x.person(1, 4), 0);
+        is("can be any", x.can(1, 0), x.person(1, 0));
+        is("undone", x.undo(), 2);
+        is("over again", x.now(0), N);
+        is("in vain again", x.now(4), 2);
+        is("caught again", x.person(0, 4) * 10 + x.person(1, 4), 11);
+        write(x, "kinds 3;person a;person b;hand a 0 1;hand a 1 1;hand b 0 1;");
+        x.table();
+        is("a new table: none in vain", x.now(4), 0);
+        is("a new table: nobody is caught", x.person(0, 4) + x.person(1, 4), 0);
+        is("a new table: not over", x.now(0), 0);
     }
 
     /** A seed by which the first of two gets all four cards of a kind. */
@@ -641,6 +687,31 @@ public final class EdgesOfCallsTest extends Check {
         is("seeds wrap", x.length(1, 2, 4, top), all);
         is("one by one", x.games(1, 2, 1, top) + x.games(1, 2, 1, top + 1) + x.games(1, 2, 1, top + 2)
                 + x.games(1, 2, 1, top + 3), won);
+    }
+
+    private static void gamesBehind() {
+        SevenTable x = tell("kinds 5;" + people(3) + "again;refill 3;");
+        int wins = x.games(1, 2, 9, 5);
+        int all = x.length(1, 2, 9, 5);
+        int best = x.reply(2, 9, 5);
+        x.image(0);
+        write(x, "kinds 13;" + people(2) + "hand a 3 2;heap 4;");
+        x.table();
+        is("of another table", x.length(1, 2, 9, 5) == all, false);
+        write(x, "kinds 2;person q;hand q 0 9;");
+        x.table();
+        x.restore(0);
+        is("wins again", x.games(1, 2, 9, 5), wins);
+        is("length again", x.length(1, 2, 9, 5), all);
+        is("reply again", x.reply(2, 9, 5), best);
+        x.deal(5, 77);
+        play(x, "\0\0\0", 9);
+        is("whatever lies on the table", x.length(1, 2, 9, 5), all);
+        write(x, "kinds 2;person q;hand q 0 9;");
+        x.table();
+        is("behind a fault", x.length(1, 2, 9, 5), all);
+        is("behind a fault, the tape being judged", evening(x, "a asks b 0 no;z", 0) < -1, true);
+        is("behind it", x.games(1, 2, 9, 5), wins);
     }
 
     private static void gamesWon() {
@@ -783,6 +854,10 @@ public final class EdgesOfCallsTest extends Check {
         is("it stays", x.said(N), 3);
         is("each not, bracket and other one", sentenceOf(x, "not (not book and (held a or known b)) or place > 1"), 8);
         is("the tape is empty", x.count(4), 0);
+        for (int i = 0; i < 20; i++) {
+            is("one behind another", sentenceOf(x, times("book or ", 17) + "held a and place > " + i % 2), 19);
+            is("the latest", x.said(N), 1 - i % 2);
+        }
         SevenTable none = new SevenTable();
         is("without a table", sentenceOf(none, "book"), 1);
         is("of no kinds", none.said(N), 0);
@@ -929,6 +1004,7 @@ public final class EdgesOfCallsTest extends Check {
         sentence("NONE: another what, or ahead of any", EdgesOfCallsTest::askedEdges);
         sentence("5 the KIND of a BOOK that its hand laid down by what came (not by a refill behind that; NONE)",
                 EdgesOfCallsTest::askedOfABook);
+        sentence("Of the latest asking that was done", EdgesOfCallsTest::askedRows);
         sentence("7 what all knew ahead of it: 0 that there is none, 1 nothing sure, 2 that there is one",
                 EdgesOfCallsTest::askedWhatAllKnew);
         sentence("how many more can be (8 at most are kept); NONE: none is", EdgesOfCallsTest::undoEdges);
@@ -942,9 +1018,11 @@ public final class EdgesOfCallsTest extends Check {
         sentence("how many were done; NONE: not as told", EdgesOfCallsTest::playNobody);
         sentence("false: no PERSONS, no KINDS, there are not so many", EdgesOfCallsTest::dealEdges);
         sentence("All cards are DEALT anew by a seed", EdgesOfCallsTest::dealAnew);
+        sentence("`boolean deal(int n, int seed)`: All cards are DEALT anew", EdgesOfCallsTest::dealAnewBehindVain);
         sentence("NONE: not as told, fewer than two PERSONS, not so many cards", EdgesOfCallsTest::gamesEdges);
         sentence("fewer than two PERSONS, not so many cards", EdgesOfCallsTest::gamesPersons);
         sentence("games DEALT by seeds x, x and 1, ..", EdgesOfCallsTest::gamesSeeds);
+        sentence("5 to each", EdgesOfCallsTest::gamesBehind);
         sentence("in how many PERSON 0 has more BOOKS than each other one", EdgesOfCallsTest::gamesWon);
         sentence("The BENT that wins most of n such games against j (of like ones the first); NONE likewise",
                 EdgesOfCallsTest::replyLike);

@@ -25,6 +25,16 @@ public final class EdgesOfOddsTest extends Check {
         oddsAre(x, 1, 2, 2, 1, 2);
     }
 
+    private static void oneIsKnown() {
+        SevenTable x = tell("kinds 3;" + people(3) + "hand a 0 1;hand a 1 2;hand b 2 1;hand d 0 1;hand d 2 1;heap 2 1;");
+        x.ask(0, 1, 0, 0);
+        x.ask(1, 0, 2, 0);
+        is("one is known", x.known(0, 0), 1);
+        oddsAre(x, 2, 0, 0, 1, 1);
+        oddsAre(x, 1, 0, 0, 1, 1);
+        is("whom d asks: surely a for 0", x.whom(2), 0);
+    }
+
     private static void cantBe() {
         SevenTable x = tell("kinds 2;" + people(3) + "hand a 0 1;hand b 1 1;hand d 1 1;heap 0 1 0;");
         oddsAre(x, 0, 1, 0, 2, 5);
@@ -152,6 +162,35 @@ public final class EdgesOfOddsTest extends Check {
         same("nothing changes", picture(x), before);
     }
 
+    private static void throwsChangeNothing() {
+        String[] dark = {"kinds 13;person a;person b;hand a 0 1;hand b 1 1;heap 2 3 4 5 6 7 8;",
+            "kinds 13;person a;person b;hand a 6 1;hand b 0 3;hand b 1 3;hand b 2 3;hand b 3 3;hand b 6 1;heap 4;",
+            "kinds 2;person a;person b;hand a 0 2;hand b 0 2;heap 1;"};
+        for (String text : dark) {
+            SevenTable x = tell(text);
+            sentenceOf(x, "held a");
+            x.ask(0, 1, x.person(0, 2) == 64 ? 6 : 0, 1);
+            String before = picture(x);
+            write(x, "xyz");
+            is("odds", oddsThrow(x, 0, 1, 0, 0), true);
+            is("next", x.now(1) == 0 || nextThrows(x, 0, 0, 1), true);
+            is("hand", handThrows(x, 2, 0), true);
+            is("whom", x.whom(0), N);
+            same("nothing changes", picture(x), before);
+            is("the tape stays", x.count(4), 3);
+            is("fault() stays", x.fault(), 0);
+            is("what can be undone stays", x.undo(), 0);
+        }
+        SevenTable x = tell(THREE);
+        oddsAre(x, 0, 1, 0, 7, 12);
+        is("refused", oddsThrow(x, 0, 0, 0, 0), true);
+        nextIs(x, 0, 2, 4, 9);
+        is("refused", nextThrows(x, 0, 3, 0), true);
+        oddsAre(x, 0, 1, 0, 7, 12);
+        is("whom", x.whom(0), 101);
+        oddsAre(x, 0, 1, 2, 37, 42);
+    }
+
     private static void nextEdges() {
         SevenTable x = tell(THREE);
         String before = picture(x);
@@ -255,6 +294,10 @@ public final class EdgesOfOddsTest extends Check {
         is("no card", x.bent(1, 0), N);
         SevenTable alone = tell("kinds 13;" + people(4) + "hand a 12 1;");
         is("nobody has one: the next one", alone.bent(0, 0), 112);
+        SevenTable far = tell("kinds 13;" + people(4) + "hand a 12 1;hand e 1 1;");
+        is("the last one round", far.bent(0, 0), 312);
+        SevenTable behind = tell("kinds 13;" + people(4) + "hand b 12 1;hand a 1 1;");
+        is("the last one round", behind.bent(1, 0), 12);
         SevenTable last = tell("kinds 13;" + people(4) + "hand e 12 1;");
         is("nobody has one: the next one, round", last.bent(3, 0), 12);
     }
@@ -372,6 +415,91 @@ public final class EdgesOfOddsTest extends Check {
                 .open(), 3);
     }
 
+    private static void openWithRefill() {
+        // a draws its fourth 0 and has none; b draws a 1; with a refill a draws two, and takes b's.
+        String refilled = "kinds 2;person a;person b;hand a 0 3;hand b 1 1;heap 0 1 1 1;";
+        is("one each", tell(refilled).open(), 0);
+        is("two", tell(refilled + "refill 3;").open(), 2);
+        is("the other one's turn", tell("kinds 3;person a;person b;hand a 2 4;hand b 1 1;hand b 0 1;").first(), 0);
+    }
+
+    /** Small tables: every way to go on is gone by ask() itself, down to the end. */
+    private static void openAllWays() {
+        int differ = 0;
+        for (int seed = 1; seed <= 300; seed++) {
+            String text = smallTable(seed);
+            differ += openByAllWays(text) != openByAllWays(text + "again;") ? 1 : 0;
+        }
+        is("'again' tells in some", differ > 0, true);
+    }
+
+    private static int openByAllWays(String text) {
+        SevenTable x = tell(text);
+        if (x.now(0) != N) {
+            int[] best = {0, N};
+            bestWay(text, new int[40], 0, best);
+            is("open of " + text, x.open(), best[0]);
+            is("first of " + text, x.first(), best[1]);
+        }
+        return x.open();
+    }
+
+    private static String smallTable(int seed) {
+        java.util.Random random = new java.util.Random(seed * 7919L * 1000003L);
+        int kinds = 2 + random.nextInt(2);
+        int heaped = random.nextInt(5);
+        StringBuilder hands = new StringBuilder("kinds " + kinds + ";person a;person b;");
+        StringBuilder heap = new StringBuilder();
+        for (int kind = 0; kind < kinds; kind++) {
+            int[] places = new int[3];
+            int inPlay = 2 + random.nextInt(3);
+            for (int i = 0; i < inPlay; i++) {
+                int place = random.nextInt(3);
+                places[place == 2 && heaped == 0 ? 0 : place]++;
+                heaped -= place == 2 && heaped > 0 ? 1 : 0;
+            }
+            hands.append(places[0] > 0 ? "hand a " + kind + " " + places[0] + ";" : "");
+            hands.append(places[1] > 0 ? "hand b " + kind + " " + places[1] + ";" : "");
+            for (int i = 0; i < places[2]; i++) {
+                heap.insert(random.nextBoolean() ? 0 : heap.length(), " " + kind);
+            }
+        }
+        return hands + (heap.length() > 0 ? "heap" + heap + ";" : "") + "refill " + seed % 4 + ";";
+    }
+
+    /** What is best for who is on turn behind some askings, and the kind to ask for; best[0] is for that one. */
+    private static void bestWay(String text, int[] kinds, int n, int[] best) {
+        SevenTable x = tell(text);
+        for (int i = 0; i < n; i++) {
+            x.ask(x.now(0), 1 - x.now(0), kinds[i], 0);
+        }
+        int p = x.now(0);
+        best[1] = N;
+        for (int kind = 0; kind < x.count(0); kind++) {
+            if (x.hand(p, kind) > 0) {
+                kinds[n] = kind;
+                int value = valueBehind(text, kinds, n + 1, p);
+                if (best[1] == N || value > best[0]) {
+                    best[0] = value;
+                    best[1] = kind;
+                }
+            }
+        }
+    }
+
+    private static int valueBehind(String text, int[] kinds, int n, int p) {
+        SevenTable x = tell(text);
+        for (int i = 0; i < n; i++) {
+            x.ask(x.now(0), 1 - x.now(0), kinds[i], 0);
+        }
+        if (x.now(0) == N) {
+            return x.person(p, 1) - x.person(1 - p, 1);
+        }
+        int[] best = {0, N};
+        bestWay(text, kinds, n, best);
+        return x.now(0) == p ? best[0] : -best[0];
+    }
+
     private static void openChanges() {
         SevenTable x = tell("kinds 3;person a;person b;hand a 0 2;hand a 1 1;hand b 0 1;hand b 2 2;heap 0 1 2 1;again;refill 2;");
         String before = picture(x);
@@ -400,6 +528,7 @@ public final class EdgesOfOddsTest extends Check {
         sentence("each card by itself", EdgesOfOddsTest::eachCardByItself);
         sentence("who sees its own hand, all BOOKS, how many cards each one has, and what is KNOWN",
                 EdgesOfOddsTest::whatItSees);
+        sentence("what is KNOWN: all ways in which", EdgesOfOddsTest::oneIsKnown);
         sentence("others that can't be a KIND not being it", EdgesOfOddsTest::cantBe);
         sentence("0 above, 1 below, in least terms", EdgesOfOddsTest::leastTerms);
         sentence("more than 12 others in other hands", EdgesOfOddsTest::twelveOthers);
@@ -408,6 +537,7 @@ public final class EdgesOfOddsTest extends Check {
         sentence("no way at all", EdgesOfOddsTest::noWay);
         sentence("are alike likely", EdgesOfOddsTest::noWayJust);
         sentence("NoSuchElementException: no such ones, o itself", EdgesOfOddsTest::itselfAndNoSuch);
+        sentence("A call that throws changes nothing", EdgesOfOddsTest::throwsChangeNothing);
         sentence("NoSuchElementException likewise, an empty heap", EdgesOfOddsTest::nextEdges);
         sentence("NONE: none such, as odds() throws, no card in hand", EdgesOfOddsTest::whomEdges);
         sentence("KIND by KIND, of these PERSON by PERSON, those who have some", EdgesOfOddsTest::sweepEdges);
@@ -423,6 +553,9 @@ public final class EdgesOfOddsTest extends Check {
         sentence("OPEN: two PERSONS, 3 KINDS, 4 cards in the heap at most", EdgesOfOddsTest::openAsTold);
         sentence("NONE - 100: not as told, OVER", EdgesOfOddsTest::openOver);
         sentence("BOOKS more than the other one's (below 0: fewer)", EdgesOfOddsTest::openFewer);
+        sentence("that who is on TURN has in the end, both asking for the KIND that is best for themselves",
+                EdgesOfOddsTest::openWithRefill);
+        sentence("both asking for the KIND that is best for themselves (no LIES)", EdgesOfOddsTest::openAllWays);
         sentence("OPEN: two PERSONS", EdgesOfOddsTest::openChanges);
         sentence("(of like ones the least); NONE: not as told, OVER", EdgesOfOddsTest::firstEdges);
         finish("edges of odds");

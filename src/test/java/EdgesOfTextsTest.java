@@ -232,6 +232,10 @@ public final class EdgesOfTextsTest extends Check {
         }
         SevenTable all = tell("kinds 13;heap" + times(" 0 1 2 3 4 5 6 7 8 9 10 11 12", 4) + ";");
         is("all 52", all.now(1), 52);
+        String full = "kinds 13;heap" + times(" 0 1 2 3 4 5 6 7 8 9 10 11 12", 4);
+        tableFault(full + " 12;", 5, full.length() + 1);
+        tableFault(full + " 13;", 2, full.length() + 1);
+        tableFault(full + " 12", 5, full.length() + 1);
         is("the last", all.heap(51), 12);
         is("behind", all.heap(52), N);
     }
@@ -435,6 +439,11 @@ public final class EdgesOfTextsTest extends Check {
         said(x, "most = 3", 0b10);
         said(x, "most < 3", 0b1111111111101);
         said(x, "most > 1", 0b110);
+        said(x, "most < 1", 0b1111111111001);
+        said(x, "most = 0", 0b1111111111001);
+        said(x, "most < 0", 0);
+        said(tell("kinds 2;heap 0;"), "most < 0", 0);
+        said(tell("kinds 2;heap 0;"), "most = 0 and hands = 0", 0b11);
         said(x, "place = 0", 1);
         said(x, "place = 12", 0b1000000000000);
         said(x, "place > 12", 0);
@@ -443,6 +452,32 @@ public final class EdgesOfTextsTest extends Check {
         said(x, "not book and not held a and not held b", 0b1111111111000);
         said(x, "held a", 0b10);
         said(x, "known a", 0);
+    }
+
+    private static void joined() {
+        SevenTable x = tell("kinds 4;person a;person b;hand a 0 1;hand a 1 1;hand b 1 1;hand b 2 1;heap 3;");
+        said(x, "held a or held b", 0b111);
+        said(x, "held a and held b", 0b10);
+        said(x, "not held a or held b", 0b1110);
+        said(x, "not held a and held b", 0b100);
+        said(x, "not (held a or held b)", 0b1000);
+        said(x, "not (held a and held b)", 0b1101);
+        said(x, "not not held a", 0b11);
+        said(x, "place = 3 or held a and held b", 0b1010);
+        said(x, "held a and held b or place = 3", 0b1010);
+        said(x, "(place = 3 or held a) and held b", 0b10);
+        said(x, "held b and (place = 3 or held a)", 0b10);
+        said(x, "held a or held b and place = 3", 0b11);
+        said(x, "(held a or held b) and place = 3", 0);
+        said(x, "place = 0 or place = 1 or place = 2 or place = 3", 0b1111);
+        said(x, "place > 0 and place < 3 and place = 2", 0b100);
+        said(x, "place = 0 and held a or place = 2 and held b or place = 3 and held a", 0b101);
+        said(x, "((((((held a or (held b)))))))", 0b111);
+        said(x, "known a", 0);
+        x.ask(0, 1, 0, 0);
+        said(x, "known a", 0b1);
+        said(x, "known b", 0);
+        said(x, "held a and not known a", 0b1010);
     }
 
     private static void said(SevenTable x, String text, int bits) {
@@ -523,6 +558,7 @@ public final class EdgesOfTextsTest extends Check {
         sentence("8 within one another", EdgesOfTextsTest::eightWithin);
         sentence("COND: ALL { 'or' ALL }", EdgesOfTextsTest::sentenceGrammar);
         sentence("cards of it in all hands, in the heap; the most in one hand; its number", EdgesOfTextsTest::measures);
+        sentence("ALL: ONE { 'and' ONE }. ONE: 'not' ONE | ( COND )", EdgesOfTextsTest::joined);
         sentence("FAULTS, the first along the text", EdgesOfTextsTest::firstAlong);
         sentence("of one TOKEN the least", EdgesOfTextsTest::leastOfOneToken);
         sentence("the end: how many bytes there are", EdgesOfTextsTest::placeOfTheEnd);
