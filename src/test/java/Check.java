@@ -232,6 +232,21 @@ abstract class Check {
         is("next for " + o + " of " + kind + ", below", x.next(o, kind, 1), below);
     }
 
+    /** Nothing is known of anybody, and nobody has asked, drawn or been caught, as behind a table without a refill. */
+    static void isFresh(String when, SevenTable x) {
+        for (int p = 0; p < x.count(1); p++) {
+            int cards = x.person(p, 0);
+            is(when + ": others of " + p, x.person(p, 3), cards);
+            is(when + ": caught, asked, given, drawn " + p,
+                    x.person(p, 4) + x.person(p, 5) + x.person(p, 6) + x.person(p, 7), N);
+            for (int kind = 0; kind < x.count(0); kind++) {
+                is(when + ": known " + p, x.known(p, kind), 0);
+                is(when + ": can " + p, x.can(p, kind), cards);
+            }
+        }
+        is(when + ": askings, in vain", x.now(2) + x.now(4), 0);
+    }
+
     /** All that can be seen of the cards, what is known, the sentence and what calls told last; not fault and tape. */
     static String picture(SevenTable x) {
         StringBuilder s = new StringBuilder(cards(x));

@@ -68,6 +68,33 @@ public final class EdgesOfCallsTest extends Check {
         is("empty", x.count(4), 0);
     }
 
+    private static void firstBytesAlone() {
+        SevenTable x = new SevenTable();
+        x.feed(AGAIN, 0x6e3b6161, 0x61616161, 0x61616161, 0x61616161);
+        x.end(6);
+        is("what was cut is not read", x.table(), 1);
+        x.feed(AGAIN, 0x6e3b6161, 0x61616161, 0x61616161, 0x61616161);
+        x.end(5);
+        is("a token ends with the tape", x.table(), -6);
+        // refill 9 and more digits that are cut, then a new sign behind.
+        x.feed(0x72656669, 0x6c6c2039, 0x39393939, 0x39393939, 0x39393939);
+        x.end(8);
+        x.feed(0x3b202020, 0x20202020, 0x20202020, 0x20202020, 0x20202020);
+        is("one number, then what came behind", x.table(), 1);
+        is("refill", x.count(3), 9);
+        write(x, "kinds 2;person a;person b;hand a 0 1;hand b 1 1;");
+        x.table();
+        x.feed(0x00016363, 0x63636363, 0x63636363, 0x63636363, 0x63636363);
+        x.end(2);
+        is("two bents alone", x.play(1), 1);
+        x.feed(0x626f6f6b, 0x61616161, 0x61616161, 0x61616161, 0x61616161);
+        x.end(4);
+        is("a sentence alone", x.sentence(), 1);
+        x.feed(0x61616161, 0x61616161, 0x61616161, 0x61616161, 0x61616161);
+        x.end(0);
+        is("an evening of no lines", x.evening(0), N);
+    }
+
     private static void tableEdges() {
         SevenTable x = tell(THREE);
         sentenceOf(x, "held a");
@@ -82,6 +109,7 @@ public final class EdgesOfCallsTest extends Check {
         is("no refill", x.count(3), 0);
         is("nothing known", x.known(0, 0) + x.known(0, 1), 0);
         is("its heap", x.heap(0) * 10 + x.heap(1), -1);
+        isFresh("a new table", x);
         is("what asked() told stays", x.asked(1), 1);
         is("nothing of it can be undone", x.undo(), N);
         is("an empty tape is an empty table", x.table(), 0);
@@ -305,6 +333,7 @@ public final class EdgesOfCallsTest extends Check {
         x.image(0);
         evening(x, "a asks b 0 gives 1;a asks b 0 gives 1;", 1);
         is("as far as it is right", x.asked(1) * 10 + x.asked(3), 11);
+        is("another what behind it", x.asked(8) + x.asked(-1), -2);
         x.restore(0);
         is("restore() leaves it", x.asked(1), 1);
         is("play", play(x, "\0\0\0", 2), 2);
@@ -572,6 +601,7 @@ public final class EdgesOfCallsTest extends Check {
         x.ask(0, 2, 0, 0);
         x.ask(0, 1, 1, 1);
         is("dealt", x.deal(1, 9), true);
+        isFresh("dealt", x);
         is("all twelve", x.now(5), 12);
         is("no askings", x.now(2) + x.now(4) + x.person(0, 5) + x.person(0, 6) + x.person(0, 4), 0);
         is("no books", x.now(3), 0);
@@ -599,13 +629,14 @@ public final class EdgesOfCallsTest extends Check {
         is("none in vain", x.now(4), 0);
         is("not over", x.now(0), 0);
         is("nobody is caught", x.person(0, 4) + x.person(1, 4), 0);
-        is("can be any", x.can(1, 0), x.person(1, 0));
+        isFresh("dealt", x);
         is("undone", x.undo(), 2);
         is("over again", x.now(0), N);
         is("in vain again", x.now(4), 2);
         is("caught again", x.person(0, 4) * 10 + x.person(1, 4), 11);
         write(x, "kinds 3;person a;person b;hand a 0 1;hand a 1 1;hand b 0 1;");
         x.table();
+        isFresh("a new table", x);
         is("a new table: none in vain", x.now(4), 0);
         is("a new table: nobody is caught", x.person(0, 4) + x.person(1, 4), 0);
         is("a new table: not over", x.now(0), 0);
@@ -715,18 +746,22 @@ public final class EdgesOfCallsTest extends Check {
     }
 
     private static void gamesWon() {
-        SevenTable x = tell("kinds 3;person a;person b;");
+        SevenTable x = tell("kinds 4;person a;person b;");
         int like = 0;
         int ahead = 0;
         for (int seed = 0; seed < 30; seed++) {
-            SevenTable y = tell("kinds 3;person a;person b;");
+            SevenTable y = tell("kinds 4;person a;person b;");
             y.deal(5, seed);
             play(y, "\0\0", 300);
             like += y.person(0, 1) == y.person(1, 1) ? 1 : 0;
             ahead += y.person(0, 1) > y.person(1, 1) ? 1 : 0;
         }
         is("as many are not more", x.games(0, 0, 30, 0), ahead);
-        is("some have as many, or all books are made", like >= 0, true);
+        is("some have as many", like > 0, true);
+        // Few books are made there: one of four kinds, and PERSON 0 has it; then two of four.
+        SevenTable few = tell("kinds 4;" + people(3));
+        is("one book is more than none", few.games(0, 2, 1, 3), 1);
+        is("two are more than none", few.games(0, 2, 1, 334), 1);
         int best = 0;
         for (int i = 1; i < 4; i++) {
             best = x.games(i, 0, 30, 0) > x.games(best, 0, 30, 0) ? i : best;
@@ -973,6 +1008,103 @@ public final class EdgesOfCallsTest extends Check {
         is("bytes", x.count(4), 19);
     }
 
+    /** Thirteen kinds and six persons: of each kind 1, 1 and 2 cards in three hands that go round. */
+    private static int[][] fullHands() {
+        int[][] hands = new int[6][13];
+        for (int kind = 0; kind < 13; kind++) {
+            hands[kind % 6][kind] = 1;
+            hands[(kind + 1) % 6][kind] = 1;
+            hands[(kind + 2) % 6][kind] = 2;
+        }
+        return hands;
+    }
+
+    private static String fullText(int[][] hands) {
+        StringBuilder text = new StringBuilder("kinds 13;" + people(6));
+        for (int p = 0; p < 6; p++) {
+            for (int kind = 0; kind < 13; kind++) {
+                if (hands[p][kind] > 0) {
+                    text.append("hand ").append("abdefg".charAt(p)).append(' ').append(kind).append(' ')
+                            .append(hands[p][kind]).append(';');
+                }
+            }
+        }
+        return text.toString();
+    }
+
+    private static void fullSize() {
+        int[][] hands = fullHands();
+        SevenTable x = tell(fullText(hands));
+        for (int p = 0; p < 6; p++) {
+            int cards = 0;
+            int bits = 0;
+            int kinds = 0;
+            for (int kind = 0; kind < 13; kind++) {
+                is("hand", x.hand(p, kind), hands[p][kind]);
+                cards += hands[p][kind];
+                bits |= hands[p][kind] > 0 ? 1 << kind : 0;
+                kinds += hands[p][kind] > 0 ? 1 : 0;
+                is("can", x.can(p, kind) == x.person(p, 0) && x.known(p, kind) == 0, true);
+            }
+            is("cards of " + p, x.person(p, 0), cards);
+            is("kinds of " + p, x.person(p, 2), bits);
+            is("gains of " + p, x.gains(p), kinds);
+            is("two to ask for each kind", x.sweep(p), 2 * kinds);
+            is("behind", x.swept(2 * kinds), N);
+            is("books of " + p, x.person(p, 1), 0);
+        }
+        is("all cards", x.now(5), 52);
+        is("of all kinds", sentenceOf(x, "hands = 4 and most = 2 and not book and heaped = 0"), 5);
+        is("of all kinds", x.said(N), 13);
+        is("the last", x.said(12), 12);
+        is("behind", x.said(13), N);
+        is("too many others", oddsThrow(x, 0, 1, 0, 0), true);
+        is("nobody to ask", x.whom(5), N);
+        // The last one has 4, 5, 10 and 11, and two of 3 and 9.
+        is("the least kind, round to a", x.bent(5, 0), 3);
+        is("as 0", x.bent(5, 1), 3);
+        is("the most of 3; d has most cards, ten", x.bent(5, 2), 203);
+        is("as 0", x.bent(5, 3), 3);
+    }
+
+    private static void fullPlay() {
+        SevenTable x = tell(fullText(fullHands()));
+        int done = play(x, "\0\1\2\3\0\1", 400);
+        is("over", x.now(0), N);
+        is("askings", x.now(2), done);
+        int books = 0;
+        int asked = 0;
+        for (int p = 0; p < 6; p++) {
+            int own = 0;
+            for (int kind = 0; kind < 13; kind++) {
+                own += x.book(kind) == p ? 1 : 0;
+            }
+            is("books of " + p, x.person(p, 1), own);
+            books += own;
+            asked += x.person(p, 5);
+        }
+        is("all books", x.now(3), books);
+        is("all askings", asked, done);
+        is("the rest", x.now(5), 52 - 4 * books);
+        is("the leader has most", x.person(x.leader(), 1) * 6 >= books, true);
+    }
+
+    private static void fullOdds() {
+        SevenTable x = tell("kinds 13;" + people(6) + "hand a 7 1;hand a 12 1;hand b 8 1;hand b 12 1;hand d 9 1;hand d 12 1;"
+                + "hand e 10 1;hand e 7 1;hand f 11 1;hand f 8 1;hand g 9 1;hand g 12 1;heap 10 11;");
+        // g sees a 9 and a 12; of twelve others three are 12 and one is 9, and each one has two of them.
+        for (int p = 0; p < 5; p++) {
+            oddsAre(x, 5, p, 12, 5, 11);
+            oddsAre(x, 5, p, 9, 1, 6);
+            oddsAre(x, 5, p, 0, 0, 1);
+        }
+        nextIs(x, 5, 12, 1, 4);
+        nextIs(x, 5, 6, 0, 1);
+        is("the first", x.whom(5), 12);
+        is("b, for who is first itself", x.whom(0), 112);
+        is("kind 12 ahead of 7", x.odds(0, 1, 12, 1) * 100 + x.odds(0, 1, 7, 1), 1106);
+    }
+
     private static void longUse() {
         SevenTable x = new SevenTable();
         write(x, "kinds 13;" + people(6));
@@ -991,6 +1123,7 @@ public final class EdgesOfCallsTest extends Check {
         sentence("NONE, and none come, if it would have more than 940", EdgesOfCallsTest::feedEdges);
         sentence("Twenty bytes come behind the tape, of each number the highest first", EdgesOfCallsTest::feedBytes);
         sentence("false, if it has not so many, or n is below 0", EdgesOfCallsTest::endEdges);
+        sentence("The tape has its first n bytes alone", EdgesOfCallsTest::firstBytesAlone);
         sentence("A new TABLE: no SENTENCE", EdgesOfCallsTest::tableEdges);
         sentence("-1 less the place of a FAULT: it stays", EdgesOfCallsTest::tableFaultStays);
         sentence("0 without one and ahead of any", EdgesOfCallsTest::faultEdges);
@@ -1035,6 +1168,9 @@ public final class EdgesOfCallsTest extends Check {
         sentence("are kept in place k (0, 1): true; false: no such one", EdgesOfCallsTest::imageEdges);
         sentence("the tape, and what other calls told last, stays; nothing can be undone", EdgesOfCallsTest::restoreEdges);
         sentence("4 bytes of the tape. NONE for another what", EdgesOfCallsTest::countEdges);
+        sentence("'kinds' K (2 to 13", EdgesOfCallsTest::fullSize);
+        sentence("6 PERSONS at most", EdgesOfCallsTest::fullPlay);
+        sentence("ODDS for onlooker o that PERSON q has some of a KIND", EdgesOfCallsTest::fullOdds);
         sentence("An object is used for at most 512 calls", EdgesOfCallsTest::longUse);
         finish("edges of calls");
     }

@@ -44,6 +44,17 @@ public final class EdgesOfOddsTest extends Check {
         // a sees two 0; left are a 0 and three 1, one of which is b's.
         oddsAre(x, 0, 2, 0, 1, 3);
         nextIs(x, 0, 1, 2, 3);
+        for (int kind = 0; kind < 13; kind++) {
+            int other = (kind + 5) % 13;
+            SevenTable y = tell("kinds 13;" + people(3) + "hand a " + kind + " 1;hand b " + other + " 1;hand d " + other
+                    + " 1;hand d " + kind + " 1;heap " + other + " " + kind + ";");
+            // a does not see two of each; b has one of them, d two.
+            oddsAre(y, 0, 1, kind, 2, 5);
+            y.ask(0, 1, kind, 0);
+            oddsAre(y, 0, 1, kind, 0, 1);
+            oddsAre(y, 0, 1, other, 1, 1);
+            oddsAre(y, 2, 1, kind, 0, 1);
+        }
     }
 
     private static void leastTerms() {
@@ -500,6 +511,26 @@ public final class EdgesOfOddsTest extends Check {
         return x.now(0) == p ? best[0] : -best[0];
     }
 
+    private static void openBehindOpen() {
+        SevenTable x = new SevenTable();
+        for (int seed = 1; seed <= 12; seed++) {
+            write(x, "kinds 3;person a;person b;hand a 0 1;hand a 1 1;hand a 2 2;hand b 0 1;hand b 1 3;hand b 2 1;heap 2 0;");
+            x.table();
+            is("three kinds", x.open() > -101 && x.first() >= 0, true);
+            String text = smallTable(seed);
+            write(x, text);
+            x.table();
+            is("open behind another of " + text, x.open(), tell(text).open());
+            is("first behind another of " + text, x.first(), tell(text).first());
+        }
+        write(x, "kinds 3;person a;person b;hand a 0 1;hand a 2 2;hand b 1 1;hand b 2 1;");
+        x.table();
+        is("no book can be", x.open(), 0);
+        write(x, "kinds 2;person a;person b;hand a 0 2;hand b 0 2;hand b 1 3;heap 1;");
+        x.table();
+        is("two kinds behind three: a takes 0, b draws 1", x.open(), 0);
+    }
+
     private static void openChanges() {
         SevenTable x = tell("kinds 3;person a;person b;hand a 0 2;hand a 1 1;hand b 0 1;hand b 2 2;heap 0 1 2 1;again;refill 2;");
         String before = picture(x);
@@ -556,6 +587,7 @@ public final class EdgesOfOddsTest extends Check {
         sentence("that who is on TURN has in the end, both asking for the KIND that is best for themselves",
                 EdgesOfOddsTest::openWithRefill);
         sentence("both asking for the KIND that is best for themselves (no LIES)", EdgesOfOddsTest::openAllWays);
+        sentence("all being seen: BOOKS more than", EdgesOfOddsTest::openBehindOpen);
         sentence("OPEN: two PERSONS", EdgesOfOddsTest::openChanges);
         sentence("(of like ones the least); NONE: not as told, OVER", EdgesOfOddsTest::firstEdges);
         finish("edges of odds");

@@ -459,6 +459,9 @@ public final class EdgesOfPlayTest extends Check {
                 for (int p = 0; p < persons; p++) {
                     handIs(x, p, kinds, pack, p * n, n);
                 }
+                if (x.now(3) == 0) {
+                    isFresh("dealt", x);
+                }
                 is("the rest is the heap", x.now(1), pack.length - persons * n);
                 for (int j = 0; j < x.now(1); j++) {
                     is("heap " + j, x.heap(j), pack[persons * n + j]);
