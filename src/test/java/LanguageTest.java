@@ -1,8 +1,14 @@
+import java.lang.reflect.Constructor;
+import java.lang.reflect.Field;
+import java.lang.reflect.Method;
+import java.lang.reflect.Modifier;
 import java.nio.charset.StandardCharsets;
 import java.nio.file.Files;
 import java.nio.file.Paths;
 import java.util.Arrays;
 import java.util.List;
+import java.util.Set;
+import java.util.TreeSet;
 import java.util.regex.Matcher;
 import java.util.regex.Pattern;
 
@@ -51,6 +57,8 @@ public final class LanguageTest {
         int classes = bare.split("\\bclass \\w").length - 1;
         refuse(classes > 12, classes + " classes");
         methods(bare);
+        face();
+        members();
         System.out.println("language: " + classes + " classes, " + wrong + " wrong");
         System.exit(wrong > 0 ? 1 : 0);
     }
@@ -69,5 +77,67 @@ public final class LanguageTest {
             refuse(!isFace && FACE.contains(name), name + " bears a name of the face");
         }
         refuse(found < 100, "the text of the methods was not found: " + found);
+    }
+
+    /** The face is the document's, each constant, constructor and method, and nothing else is open. */
+    private static void face() throws Exception {
+        String document = new String(Files.readAllBytes(Paths.get("../shared/DOC.md")), StandardCharsets.ISO_8859_1);
+        Set<String> due = new TreeSet<>();
+        Matcher m = Pattern.compile("(?m)^    public ([^;]*);").matcher(document);
+        while (m.find()) {
+            due.add(m.group(1).replaceAll("int \\w+(?=[,)])", "int").replaceAll(" = .*", ""));
+        }
+        refuse(due.size() != 39, "the document's face has " + due.size() + " members");
+        Set<String> found = new TreeSet<>();
+        for (Field field : SevenTable.class.getDeclaredFields()) {
+            if (!Modifier.isPrivate(field.getModifiers())) {
+                found.add("static final " + field.getType() + " " + field.getName());
+                refuse(!Modifier.isPublic(field.getModifiers()) || !Modifier.isStatic(field.getModifiers()), "open: " + field);
+            }
+        }
+        for (Constructor<?> constructor : SevenTable.class.getDeclaredConstructors()) {
+            found.add("SevenTable(" + types(constructor.getParameterTypes()) + ")");
+            refuse(!Modifier.isPublic(constructor.getModifiers()), "not open: " + constructor);
+        }
+        for (Method method : SevenTable.class.getDeclaredMethods()) {
+            if (!Modifier.isPrivate(method.getModifiers())) {
+                String thrown = types(method.getExceptionTypes());
+                found.add(method.getReturnType() + " " + method.getName() + "(" + types(method.getParameterTypes()) + ")"
+                        + (thrown.isEmpty() ? "" : " throws " + thrown));
+                refuse(!Modifier.isPublic(method.getModifiers()) || Modifier.isStatic(method.getModifiers()), "open: " + method);
+            }
+        }
+        refuse(!found.equals(due), "the face is " + found + ", due is " + due);
+        refuse(!Modifier.isFinal(SevenTable.class.getModifiers()), "the class is not final");
+    }
+
+    private static String types(Class<?>[] types) {
+        StringBuilder s = new StringBuilder();
+        for (Class<?> type : types) {
+            s.append(s.length() > 0 ? ", " : "").append(type.getSimpleName());
+        }
+        return s.toString();
+    }
+
+    /** Classes inside are static and closed, static fields are constants, and no class has too many fields. */
+    private static void members() {
+        for (Class<?> inside : SevenTable.class.getDeclaredClasses()) {
+            int modifiers = inside.getModifiers();
+            refuse(!Modifier.isStatic(modifiers) || Modifier.isPublic(modifiers) || Modifier.isProtected(modifiers),
+                    "not static or not closed: " + inside);
+            fields(inside);
+        }
+        fields(SevenTable.class);
+    }
+
+    private static void fields(Class<?> type) {
+        int own = 0;
+        for (Field field : type.getDeclaredFields()) {
+            boolean isStatic = Modifier.isStatic(field.getModifiers());
+            own += isStatic ? 0 : 1;
+            boolean constant = field.getType() == int.class || field.getType() == String.class;
+            refuse(isStatic && !(constant && Modifier.isFinal(field.getModifiers())), "no constant: " + field);
+        }
+        refuse(own > 20, type + " has " + own + " fields");
     }
 }
